@@ -42,6 +42,7 @@ public final class SundayVisits {
     private static final int SHEETS = 4;
     private static final int SHEET_MOST = 40;
     private static final int TAPE_MOST = 120;
+    private static final int LONG_MOST = 12;
     private static final int MOOD_MOST = 99;
     private static final int WELL_FROM = 60;
     private static final int TALLY_MOST = 9999;
@@ -378,7 +379,7 @@ public final class SundayVisits {
         }
         for (int k = 0; k < n; k++) {
             live.list[live.sunday % PLACES] = live.draw() % SETS;
-            live.settings[LONG] = 1 + live.draw() % mostSetting(LONG);
+            live.settings[LONG] = 1 + live.draw() % LONG_MOST;
             live.passSunday();
         }
         return live.moods();
@@ -727,7 +728,7 @@ public final class SundayVisits {
             case VOLUNTEERS:
                 return 8;
             case LONG:
-                return 12;
+                return LONG_MOST;
             default:
                 return 20;
         }

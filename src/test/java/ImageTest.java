@@ -41,6 +41,7 @@ public final class ImageTest {
         x.change(3, 4, 77);
         x.hold(4, -1);
         x.hold(5, 4);
+        x.change(4, 4, 66);
         x.come(7);
         c.due("40: undo tells the sunday", x.undo(), 3);
         c.due("40: all as it was", before.equals(Check.seen(x)) ? 1 : 0, 1);
@@ -122,6 +123,15 @@ public final class ImageTest {
             c.due("42: count(" + what + ")", x.count(what), Check.BEYOND);
         }
         c.due("43: all told", x.status(0), 4);
+        SundayVisits y = Check.homeOf(0, 1, 2, 3, 4, 5, 6, 0);
+        for (int r = 0; r < 8; r++) {
+            y.change(r, 1, 59 + r);
+            y.change(r, 4, 9000 + r);
+        }
+        int[] eight = {0, 8, 500, 72028, 7};
+        for (int what = 0; what < 5; what++) {
+            c.due("42: count(" + what + ") of eight", y.count(what), eight[what]);
+        }
     }
 
     private static void status() {

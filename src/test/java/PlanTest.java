@@ -68,8 +68,16 @@ public final class PlanTest {
         x.change(1, 1, 0);
         c.due("18: the least", x.volunteersFor(0, 1), 0);
         c.due("18: nobody is below", x.volunteersFor(1, 1), 2);
+        x.change(1, 1, 50);
+        for (int r = 0; r < 3; r += 2) {
+            x.change(r, 1, 40);
+            c.due("18: also of " + r, x.volunteersFor(41, 0), Check.NONE);
+            x.change(r, 1, 50);
+        }
         SundayVisits y = Check.homeOf(0, 0, 0, 0, 0, 0, 0, 0);
         c.due("18: all eight", y.volunteersFor(54, 1), 8);
+        y.change(7, 1, 40);
+        c.due("18: also of the eighth", y.volunteersFor(41, 0), Check.NONE);
         c.due("18: nobody there", new SundayVisits().volunteersFor(99, 5), 0);
     }
 

@@ -142,6 +142,13 @@ public final class TextTest {
         fault("vagues", 0);
         fault("vagu", 0);
         fault("livelymood 3", 0);
+        fault("xong 3", 0);
+        fault("lonx 3", 0);
+        fault("longz 3", 0);
+        fault("longa 3", 0);
+        fault("a", 0);
+        fault("z", 0);
+        fault("vague zmood 3", 6);
         fault("mood 3", 0);
         fault("friend 0", 0);
         fault("waits 0", 0);
