@@ -1,9 +1,5 @@
-import java.lang.reflect.InvocationTargetException;
-import java.lang.reflect.Method;
-import java.lang.reflect.Modifier;
 import java.util.ArrayList;
 import java.util.Arrays;
-import java.util.Comparator;
 import java.util.List;
 import java.util.Random;
 
@@ -39,7 +35,7 @@ public final class ModelTest {
         draws = new Random(seed);
     }
 
-    public static void main(String[] args) throws ReflectiveOperationException {
+    public static void main(String[] args) {
         int runs = args.length > 0 ? Integer.parseInt(args[0]) : RUNS;
         for (int run = 0; run < runs; run++) {
             new ModelTest(run).go();
@@ -47,7 +43,7 @@ public final class ModelTest {
         c.end();
     }
 
-    private void go() throws ReflectiveOperationException {
+    private void go() {
         int people = draws.nextInt(9);
         for (int r = 0; r < people; r++) {
             both("resident", draws.nextInt(7));
@@ -69,7 +65,7 @@ public final class ModelTest {
         }
     }
 
-    private void anyCall() throws ReflectiveOperationException {
+    private void anyCall() {
         Object[] row = RANGES[draws.nextInt(RANGES.length)];
         int[] a = new int[(row.length - 1) / 2];
         for (int i = 0; i < a.length; i++) {
@@ -96,7 +92,7 @@ public final class ModelTest {
         return least + draws.nextInt(most - least + 1);
     }
 
-    private void changeSome() throws ReflectiveOperationException {
+    private void changeSome() {
         int r = draws.nextInt(8);
         both("change", r, 0, draws.nextInt(7));
         both("change", r, 1, draws.nextInt(100));
@@ -105,7 +101,7 @@ public final class ModelTest {
         both("change", r, 4, draws.nextInt(4) == 0 ? 9990 + draws.nextInt(10) : draws.nextInt(10));
     }
 
-    private void fillSheet() throws ReflectiveOperationException {
+    private void fillSheet() {
         int s = draws.nextInt(4);
         int n = draws.nextInt(9);
         int r = draws.nextInt(8);
@@ -122,7 +118,7 @@ public final class ModelTest {
         both(draws.nextBoolean() ? "load" : "judge", s);
     }
 
-    private void feedText() throws ReflectiveOperationException {
+    private void feedText() {
         StringBuilder text = new StringBuilder();
         boolean sound = draws.nextInt(3) > 0;
         int pieces = 1 + draws.nextInt(5);
@@ -163,7 +159,7 @@ public final class ModelTest {
             + (draws.nextBoolean() ? " waits " + draws.nextInt(9) : "");
     }
 
-    private long both(String name, int... a) throws ReflectiveOperationException {
+    private long both(String name, int... a) {
         if (said.size() >= 512) {
             return 0;
         }
@@ -171,10 +167,10 @@ public final class ModelTest {
         long want = model.call(name, a);
         long got;
         try {
-            got = ((Number) METHODS.get(indexOf(name)).invoke(x, Arrays.stream(a).boxed().toArray())).longValue();
-        } catch (InvocationTargetException e) {
+            got = Calls.call(x, name, a);
+        } catch (IllegalStateException e) {
             wrong++;
-            c.fail("threw " + e.getCause() + " behind " + said);
+            c.fail(e.getMessage() + " behind " + said);
             return want;
         }
         if (got != want) {
@@ -182,17 +178,5 @@ public final class ModelTest {
             c.due("behind " + said, got, want);
         }
         return want;
-    }
-
-    private static final List<Method> METHODS = Arrays.stream(SundayVisits.class.getDeclaredMethods())
-        .filter(m -> Modifier.isPublic(m.getModifiers())).sorted(Comparator.comparing(Method::getName)).toList();
-
-    private static int indexOf(String name) {
-        for (int i = 0; i < METHODS.size(); i++) {
-            if (METHODS.get(i).getName().equals(name)) {
-                return i;
-            }
-        }
-        throw new IllegalStateException(name);
     }
 }
