@@ -49,6 +49,18 @@ public final class PlanEdgeTest {
             change(0, 1, 74)
             longFor(1) 12
             """);
+        run("16: MOODS together are most: 1 against 0, and 0 all over", """
+            people(2)
+            set(1, 0)
+            set(2, 0)
+            change(0, 1, 0)
+            visit(0, 1)
+            longFor(5) 6
+            longFor(6) 6
+            ahead(0, 1, 6) 0
+            visit(0, 0)
+            longFor(6) 1
+            """);
         run("16: MOODS together: nobody is there", """
             longFor(0) 1
             longFor(40) 1
@@ -190,6 +202,17 @@ public final class PlanEdgeTest {
             list(1, 1, 1, 1, 1, 1)
             comeOn(0, 40) 0
             """);
+        run("19: to VISITS, too: who is there already stays", """
+            people(0, 0)
+            set(0, 2)
+            set(2, 0)
+            list(1, 1, 0, 0, 0, 0)
+            comeOn(1, 2) 0
+            comeOn(1, 3) 2
+            set(0, 4)
+            change(1, 1, 0)
+            comeOn(1, 2) 1
+            """);
         run("19: a RESIDENT: the first, the last, beyond both", """
             comeOn(0, 0) BEYOND
             people(2, 2, 2, 2, 2, 2, 2, 2)
@@ -232,6 +255,15 @@ public final class PlanEdgeTest {
             visit(3, 1)
             kindFor(0, 39) 4
             kindFor(0, 40) 1
+            """);
+        run("20: MOOD of it is most: 1 against 0, and 0 all over", """
+            people(0)
+            set(2, 0)
+            change(0, 1, 1)
+            kindFor(0, 1) 4
+            kindFor(0, 40) 4
+            change(0, 1, 0)
+            kindFor(0, 40) 0
             """);
         run("20: a RESIDENT: the first, the last, beyond both", """
             kindFor(0, 0) BEYOND

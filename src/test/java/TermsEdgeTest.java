@@ -619,6 +619,11 @@ public final class TermsEdgeTest {
             ahead(0, 4, 1) 1
             ahead(0, 4, 100) 100
             come(2) STATE
+            image()
+            come(1)
+            now(0) 99999
+            undo() 99998
+            go(2) STATE
             go(1)
             now(0) 99999
             go(1) STATE
@@ -630,7 +635,7 @@ public final class TermsEdgeTest {
             when(0, 202) NONE
             image()
             undo() 99999
-            status(4) 6
+            status(4) 7
             """);
     }
 

@@ -136,6 +136,10 @@ public final class TextEdgeTest {
             read(vague moo 3) -7
             read(avague) -1
             read(zvague) -1
+            read(vaguea) -1
+            read(vaguez) -1
+            read(bague) -1
+            read(vagud) -1
             """);
         run("TOKENS, each as long as can be: NUMBERS (digits)", """
             read(visits 012) -8
