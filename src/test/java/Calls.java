@@ -3,6 +3,7 @@ import java.lang.reflect.Method;
 import java.lang.reflect.Modifier;
 import java.util.Arrays;
 import java.util.Map;
+import java.util.Set;
 import java.util.TreeMap;
 
 /** Calls of the public face by their names. */
@@ -18,6 +19,10 @@ final class Calls {
     }
 
     private Calls() {
+    }
+
+    static Set<String> names() {
+        return FACE.keySet();
     }
 
     /** What the call answers; what it throws comes as an IllegalStateException, since no call may throw. */

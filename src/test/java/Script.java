@@ -50,6 +50,10 @@ final class Script {
         return Check.BEYOND - FINDINGS.indexOf(name);
     }
 
+    static String nameOf(long finding) {
+        return FINDINGS.get((int) (Check.BEYOND - finding));
+    }
+
     static boolean isFinding(long answer) {
         return answer <= Check.BEYOND && answer >= Check.SIZE;
     }
